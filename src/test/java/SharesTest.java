@@ -140,6 +140,9 @@ public final class SharesTest {
         Check.due("0 and 2 together", owens(x, 0), 5, 1, 15, 2, 15, 2);
         x.unite(1, 2);
         Check.due("all together: as the shares", owens(x, 0), 16, 3, 41, 6, 47, 6);
+        x.unite(2, 2);
+        x.unite(1, 1);
+        Check.due("all gone their ways: as the shares", owens(x, 0), 16, 3, 41, 6, 47, 6);
         PartnerWorth y = Check.of(4);
         y.unite(3, 2);
         Check.weigh(y, 3, 1, 1, 1, 1);
