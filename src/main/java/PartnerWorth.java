@@ -490,16 +490,7 @@ public final class PartnerWorth {
     }
 
     public int carrier(int game) {
-        if (!isGame(game)) {
-            return NONE;
-        }
-        int found = 0;
-        for (int partner = 0; partner < now.n; partner++) {
-            if (!addsAlways(now.games[game], partner, 0)) {
-                found |= 1 << partner;
-            }
-        }
-        return found;
+        return isGame(game) ? now.everyone() & ~kind(game, 0) : NONE;
     }
 
     public int is(int game, int what) {
