@@ -35,7 +35,7 @@ public final class ModelTest {
 
     public static void main(String[] args) throws Exception {
         ModelTest test = new ModelTest();
-        int runs = args.length > 1 ? Integer.parseInt(args[1]) : 1200;
+        int runs = args.length > 2 ? Integer.parseInt(args[2]) : 1200;
         for (int k = 0; k < runs && test.wrong < 5; k++) {
             test.oneRun(k);
         }
