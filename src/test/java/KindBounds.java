@@ -139,8 +139,8 @@ final class KindBounds extends Bound {
     }
 
     private static void promise40InOrder() {
-        promise(40, "(of those looked at in order: of two SETS the lesser ahead, by numbers, till one tells that it isn't"
-            + " so).");
+        promise(40, "(of those looked at in order: of two SETS the lesser ahead, by numbers, till one tells that it"
+            + " isn't so).");
         startLarge(3, 1, 4, 0, 4, 0, 0, 0);
         leaves("is(0, 1)", 0);
         leaves("is(0, 2)", 0);
@@ -235,8 +235,8 @@ final class KindBounds extends Bound {
     }
 
     private static void promise43Beyond() {
-        promise(43, "OVER: an EXCESS of any SET that is looked at (what is told of it, added up by PARTNERS, too) would be"
-            + " beyond.");
+        promise(43, "OVER: an EXCESS of any SET that is looked at (what is told of it, added up by PARTNERS, too)"
+            + " would be beyond.");
         start(3, EXAMPLE);
         tell(0, Long.MAX_VALUE, 1, 0);
         leaves("worst(0, 0, 0)", OVER);
@@ -342,8 +342,8 @@ final class KindBounds extends Bound {
     }
 
     private static void promise47() {
-        promise(47, "What 0 n, 1 QUOTA, 2 ESTATE, 3 EDGES, 4 UNIONS, 5 bytes of THE TAPE, 6 of THE PAPER, 7 WEIGHTS added"
-            + " up, 10 .. 18 WEIGHT of PARTNER what less 10.");
+        promise(47, "What 0 n, 1 QUOTA, 2 ESTATE, 3 EDGES, 4 UNIONS, 5 bytes of THE TAPE, 6 of THE PAPER, 7 WEIGHTS"
+            + " added up, 10 .. 18 WEIGHT of PARTNER what less 10.");
         rich();
         long[] due = {3, 9, 7, 2, 2, 4, 14, 13, NONE, NONE, 2, 5, 6, NONE};
         for (int what = 0; what < due.length; what++) {

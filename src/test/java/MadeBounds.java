@@ -20,8 +20,8 @@ final class MadeBounds extends Bound {
     }
 
     private static void promise13() {
-        promise(13, "MADE: how 0 by VOTE, 1 WEIGHTS, 2 EDGES, 3 HEAVIEST, 4 CLAIMS: how many SETS have a VALUE other than"
-            + " 0.");
+        promise(13, "MADE: how 0 by VOTE, 1 WEIGHTS, 2 EDGES, 3 HEAVIEST, 4 CLAIMS: how many SETS have a VALUE other"
+            + " than 0.");
         start(2, 7, 7, 7);
         does("make(0, 0)", 0);
         does("make(0, 1)", 0);
@@ -247,8 +247,8 @@ final class MadeBounds extends Bound {
     }
 
     private static void promise22() {
-        promise(22, "A PARTNER is of no use: each SET has the VALUE that it has without it (as it was): how many SETS have"
-            + " another VALUE then.");
+        promise(22, "A PARTNER is of no use: each SET has the VALUE that it has without it (as it was): how many"
+            + " SETS have another VALUE then.");
         start(1, 5);
         does("without(0, 0)", 1);
         holds(0, 0, 0);
@@ -266,8 +266,8 @@ final class MadeBounds extends Bound {
     }
 
     private static void promise23() {
-        promise(23, "Another PARTNER goes along with one: each SET with that one has the VALUE (as it was) with both, each"
-            + " without it that without both: likewise.");
+        promise(23, "Another PARTNER goes along with one: each SET with that one has the VALUE (as it was) with"
+            + " both, each without it that without both: likewise.");
         start(3, EXAMPLE);
         does("join(0, 0, 2)", 4);
         holds(0, 0, 7, 2, 20, 0, 7, 2, 20);
@@ -287,8 +287,8 @@ final class MadeBounds extends Bound {
     }
 
     private static void promise24() {
-        promise(24, "Two PARTNERS (perhaps the same one) are in each other's places: each SET has the VALUE (as it was) of"
-            + " that with the one for the other: likewise.");
+        promise(24, "Two PARTNERS (perhaps the same one) are in each other's places: each SET has the VALUE (as it"
+            + " was) of that with the one for the other: likewise.");
         start(3, EXAMPLE);
         leaves("swap(0, 0, 0)", 0);
         leaves("swap(0, 2, 2)", 0);

@@ -93,8 +93,8 @@ final class PaperBounds extends Bound {
     }
 
     private static void letters() {
-        term(12, "FAULT of a text (the first that is met from the left): of a letter of no PARTNER, or not behind the one"
-            + " ahead of it, where it stands;");
+        term(12, "FAULT of a text (the first that is met from the left): of a letter of no PARTNER, or not behind"
+            + " the one ahead of it, where it stands;");
         start(3, EXAMPLE);
         reads(0, "d=1", -100);
         reads(0, "ad=1", -101);
@@ -265,8 +265,8 @@ final class PaperBounds extends Bound {
     }
 
     private static void laid() {
-        term(52, "LAID into a ROW from a place on: SHARES of all PARTNERS, cut to whole numbers (toward 0), until a place"
-            + " isn't there.");
+        term(52, "LAID into a ROW from a place on: SHARES of all PARTNERS, cut to whole numbers (toward 0), until a"
+            + " place isn't there.");
         start(3, EXAMPLE);
         tell(0, 9, 9, 9, 9, 9);
         does("lay(0, 2, 0)", 3);
@@ -301,7 +301,8 @@ final class PaperBounds extends Bound {
     }
 
     private static void image() {
-        term(54, "THE IMAGE: n, GAMES, WEIGHTS, QUOTA, ESTATE, EDGES, UNIONS (THE TAPE, THE PAPER, ROWS stay by undo()).");
+        term(54, "THE IMAGE: n, GAMES, WEIGHTS, QUOTA, ESTATE, EDGES, UNIONS (THE TAPE, THE PAPER, ROWS stay by"
+            + " undo()).");
         rich();
         given("partners(9)", "value(0, 511, 4)", "feed(61)", "spell(1)", "row(3, 2)", "row(2, 1)", "set(0, 0, 77)");
         does("undo()", 3);

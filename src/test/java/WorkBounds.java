@@ -92,8 +92,8 @@ final class WorkBounds extends Bound {
     }
 
     private static void cover() {
-        term(19, "COVER: by numbers of SETS, each becomes the greatest of: VALUE (as it was) of a part of it that has its"
-            + " least PARTNER (itself, too), and what the rest of it has become, added up");
+        term(19, "COVER: by numbers of SETS, each becomes the greatest of: VALUE (as it was) of a part of it that"
+            + " has its least PARTNER (itself, too), and what the rest of it has become, added up");
         start(1, -7);
         does("cover(0)", 0);
         holds(0, 0, -7);

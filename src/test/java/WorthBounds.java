@@ -398,7 +398,9 @@ final class WorthBounds extends Bound {
         leaves("pivot(0, 0)", 2);
         leaves("pivot(0, 1)", 0);
         leavesEach("pivot(0, #)", STATE, "2", "3", "4", "-1", "IMIN", "IMAX");
-        for (long wrong : new long[] {0, 1, 3, -1, 32, 34, Long.MIN_VALUE, Long.MAX_VALUE, 2 + (1L << 32)}) {
+        // Some of these would be 2, if they were cut to an int, or if a bit were moved by them.
+        long[] wrongs = {0, 1, 3, -1, -30, 32, 34, Long.MIN_VALUE, Long.MAX_VALUE, 2 + (1L << 32), 2 - (1L << 32)};
+        for (long wrong : wrongs) {
             given("set(0, 0, " + wrong + ")");
             leaves("pivot(0, 0)", STATE);
             leaves("adds(0, 0, 0, 0)", NO);
