@@ -55,7 +55,8 @@ abstract class Bound {
 
     private static void stand(String section, String name, String words) {
         close();
-        Check.due(name + ": the document says '" + words + "'", doc.quote(section, words) ? 1 : 0, 1);
+        boolean said = doc == null || doc.quote(section, words);
+        Check.due(name + ": the document says '" + words + "'", said ? 1 : 0, 1);
         sentence = name + " '" + words + "': ";
         looked = false;
     }

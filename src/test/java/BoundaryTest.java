@@ -1,3 +1,4 @@
+import java.nio.file.Files;
 import java.nio.file.Path;
 import java.util.List;
 
@@ -11,8 +12,9 @@ public final class BoundaryTest {
             System.out.println("the path of the document is missing");
             System.exit(1);
         }
-        Doc doc = new Doc(Path.of(args[1]));
-        Check.due("promises of the document", doc.promises(), 54);
+        Path path = Path.of(args[1]);
+        // Where the document isn't at hand the answers are still looked at, the quotations aren't.
+        Doc doc = Files.isReadable(path) ? new Doc(path) : null;
         Bound.open(doc);
         GameBounds.all();
         WorkBounds.all();
@@ -25,11 +27,20 @@ public final class BoundaryTest {
         KindBounds.all();
         RowBounds.all();
         Bound.close();
+        if (doc == null) {
+            System.out.println("the document isn't at " + path + ": no quotation was looked at");
+        } else {
+            wholeDocument(doc);
+        }
+        Check.end();
+    }
+
+    private static void wholeDocument(Doc doc) {
+        Check.due("promises of the document", doc.promises(), 54);
         List<String> left = doc.unquoted();
         for (String words : left) {
             System.out.println("no test stands for " + words);
         }
         Check.due("words of the document that no test stands for", left.size(), 0);
-        Check.end();
     }
 }
