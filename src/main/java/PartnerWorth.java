@@ -28,7 +28,7 @@ public final class PartnerWorth {
     private static final int LARGEST_WORTH = 9999;
     private static final int LARGEST_FACTOR = 1000;
     private static final long LARGEST_VALUE = 1000000000000L;
-    private static final int NO_EDGE = Integer.MIN_VALUE;
+    private static final int NO_EDGE = LARGEST_WORTH + 1;
     private static final int EMPTY_ROW = -1;
     /** Each size 1 .. 9 divides it, so that 1 by a size is a whole number of these parts. */
     private static final int PARTS_OF_ONE = 2520;
